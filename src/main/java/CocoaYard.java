@@ -137,11 +137,13 @@ public final class CocoaYard {
     }
 
     public int vote(int from) {
-        if (!isWithin(from, 0, LAST_VOTE_DAY) || votes.size >= MOST_VOTES || draft.firstFault() != NONE) {
+        if (!isWithin(from, 0, LAST_VOTE_DAY) || draft.firstFault() != NONE) {
             return NONE;
         }
-        int number = votes.add(from, draft.copy());
-        draft.cutTo(0);
+        int number = votes.add(from, draft);
+        if (number != NONE) {
+            draft.cutTo(0);
+        }
         return number;
     }
 
@@ -168,7 +170,7 @@ public final class CocoaYard {
 
     public int premium(int sack, int coins) {
         Vessel it = vesselOf(SACK, sack);
-        if (it == null || it.grade == 0 || !isWithin(coins, 1, MOST_COINS) || premiums.size >= MOST_PREMIUMS) {
+        if (it == null || it.grade == 0 || !isWithin(coins, 1, MOST_COINS)) {
             return NONE;
         }
         return premiums.add(it, coins, votes, today);
@@ -218,7 +220,7 @@ public final class CocoaYard {
     }
 
     public int job(int first, int last) {
-        if (first < 0 || first > last || last >= PLAN_DAYS || plan.jobs >= MOST_JOBS) {
+        if (first < 0 || first > last || last >= PLAN_DAYS) {
             return NONE;
         }
         return plan.add(first, last);
@@ -568,7 +570,7 @@ public final class CocoaYard {
         }
     }
 
-    /** Works out texts without a fault: for each open ( a sum of the terms behind, and the term at hand with its sign. */
+    /** Works out texts without a fault. Each open ( has a sum of its terms so far and the term at hand, with its sign. */
     private static final class Reckoner {
         private final long[] sums;
         private final long[] terms;
@@ -658,11 +660,12 @@ public final class CocoaYard {
             return number >= 0 && number < size ? all[number] : null;
         }
 
-        int add(int from, Text text) {
+        /** The text is copied, for the one that is told is used again. NONE: there are as many as may be. */
+        int add(int from, Text told) {
             if (size >= all.length) {
                 return NONE;
             }
-            all[size] = new Vote(from, text);
+            all[size] = new Vote(from, told.copy());
             return size++;
         }
 
@@ -675,7 +678,7 @@ public final class CocoaYard {
             return NONE;
         }
 
-        /** What a vote's text (the text g without one) tells of a member. The grade is handed in: a premium keeps its own. */
+        /** What a vote's text (or g) tells of a member. The grade is handed in, for a premium keeps its own. */
         int tellOf(int number, Vessel sack, int grade, int member) {
             Vote it = at(number);
             int grams = sack.dryOfMember(member);
@@ -717,6 +720,7 @@ public final class CocoaYard {
             ledger = new Ledger();
         }
 
+        /** NONE: there are as many as may be. */
         int add(Vessel sack, int coins, Votes votes, int today) {
             if (size >= all.length) {
                 return NONE;
@@ -826,6 +830,7 @@ public final class CocoaYard {
             begun = new int[PLAN_DAYS];
         }
 
+        /** NONE: there are as many as may be. */
         int add(int first, int last) {
             if (jobs >= MOST_JOBS) {
                 return NONE;
@@ -863,7 +868,7 @@ public final class CocoaYard {
             return best;
         }
 
-        /** The row's last day or its first. There is one just when some job gets no day, so the plan need not be made. */
+        /** The row's last day or its first. There is one just when some job gets no day: no plan is needed. */
         int tightRow(boolean isLastWanted) {
             Arrays.fill(begun, 0);
             for (int last = 0; last < PLAN_DAYS; last++) {

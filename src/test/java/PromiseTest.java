@@ -186,6 +186,10 @@ public final class PromiseTest {
         due("wetness of water", y.told(0, 4), 1000);
         due("move of water", y.move(0, 1, 9), 10);
         due("all water went", y.told(1, 3), 9);
+        y.buy(0, 1, 10, 900);
+        y.move(0, 1, 9);
+        due("one gram of water", y.told(0, 4), 1000);
+        due("move of one gram", y.move(0, 1, 1), 20);
         due("empty", y.told(0, 1), 0);
         due("wetness of an empty one", y.told(0, 4), 0);
     }
@@ -393,6 +397,12 @@ public final class PromiseTest {
         y.day(12, false);
         due("0 at least", y.told(2, 3), 0);
         due("dry stays", y.told(2, 2), 113);
+        y = yard();
+        y.buy(0, 0, 80_000, 500);
+        y.move(0, 1, 80_000);
+        y.move(1, 2, 80_000);
+        y.day(12, false);
+        due("12 hours of 40,000 by 40", y.told(2, 3), 28_000);
     }
 
     /** A sack 3 with a taste. */
@@ -413,6 +423,14 @@ public final class PromiseTest {
     }
 
     private static void promise8() {
+        CocoaYard small = yard();
+        small.buy(0, 0, 1, 0);
+        small.move(0, 1, 1);
+        small.day(0, false);
+        due("one gram ripens", small.told(1, 5), 7);
+        small.move(1, 2, 1);
+        due("one gram", small.move(2, 3, 1), 1);
+        due("one gram is cut", small.cut(3, 0, 0, 0), 2);
         due("grade 1", tasting(50).cut(3, 3, 3, 3), 1);
         due("grade 1", tasting(90).cut(3, 0, 0, 0), 1);
         due("taste 49", tasting(49).cut(3, 3, 3, 3), 2);
@@ -469,6 +487,10 @@ public final class PromiseTest {
         due("200", y.feed(0, 0, 0, 0, 0x67), 200);
         due("nothing more", y.feed(0, 0, 0, 0, 0), 200);
         due("201", y.feed(1, 0, 0, 0, 0), NONE);
+        due("201", y.feed(0, 1 << 8, 0, 0, 0), NONE);
+        due("201", y.feed(0, 0, 1 << 16, 0, 0), NONE);
+        due("201", y.feed(0, 0, 0, 1 << 24, 0), NONE);
+        due("as it was", y.count(8), 200);
     }
 
     private static void promise10() {
@@ -779,6 +801,8 @@ public final class PromiseTest {
         CocoaYard y = sacked(5, 10, 25, 20, 45, 30, 6, 7);
         due("the text g", y.worth(0, 3, 5), 60);
         due("no dry", y.worth(10_000, 3, 4), 0);
+        due("member 19", y.worth(0, 3, 19), 0);
+        due("member 0", y.worth(0, 3, 0), 0);
         due("day -1", y.worth(-1, 3, 5), NONE);
         due("day 10001", y.worth(10_001, 3, 5), NONE);
         due("not a sack", y.worth(0, 2, 5), NONE);
@@ -897,6 +921,10 @@ public final class PromiseTest {
 
     private static void promise25() {
         CocoaYard y = new CocoaYard();
+        y.job(0, 0);
+        y.job(1, 1);
+        due("day 0", y.row(true), 0);
+        y = new CocoaYard();
         due("no jobs", y.row(false), NONE);
         y.job(0, 59);
         due("first", y.row(false), 0);
