@@ -907,6 +907,14 @@ public final class PromiseTest {
         }
         due("there are 60", y.job(0, 0), NONE);
         due("too many", y.planned(0), NONE);
+        due("too many to plan", y.planned(60), NONE);
+        y.clear();
+        for (int i = 0; i < 60; i++) {
+            y.places(i, 1);
+            y.job(i, 59);
+        }
+        due("the last of 60", y.planned(59), 59);
+        due("none behind it", y.planned(60), NONE);
         y = new CocoaYard();
         y.places(2, 1);
         y.places(3, 1);
