@@ -1,13 +1,17 @@
+import java.util.ArrayList;
+import java.util.List;
 import java.util.Random;
 
 /** Long runs of calls, the same each time, whose every answer must be the model's; the whole state is looked at too. */
-public final class ModelTest {
+public final class ModelTest extends Calls {
     private static final int[] EDGES = {-1, 0, 1, 2, 59, 60, 99, 100, 101, Integer.MIN_VALUE, Integer.MAX_VALUE};
 
     private final Random random;
-    private final CocoaYard yard = new CocoaYard();
+    private final Yard yard = new Yard();
     private final Model model = new Model();
     private final String run;
+    private final List<Call> asked = new ArrayList<>();
+    private final List<Long> wants = new ArrayList<>();
 
     private ModelTest(int seed) {
         random = new Random(seed);
@@ -15,7 +19,7 @@ public final class ModelTest {
     }
 
     public static void main(String[] args) {
-        int runs = args.length > 0 ? Integer.parseInt(args[0]) : 150;
+        int runs = args.length > 0 ? Integer.parseInt(args[0]) : 300;
         for (int seed = 0; seed < runs; seed++) {
             new ModelTest(seed).go();
         }
@@ -24,13 +28,16 @@ public final class ModelTest {
 
     private void go() {
         int style = random.nextInt(4);
+        int most = 60 + to(400);
+        int next = 50;
         for (int i = 0; i < 6; i++) {
             make(i < 4 ? i : random.nextInt(4));
         }
-        for (int i = 0; i < 500; i++) {
+        while (yard.made() < most) {
             step(style);
-            if (i % 50 == 49) {
+            if (yard.made() > next) {
                 lookAround();
+                next += 100;
             }
         }
         lookAround();
@@ -91,7 +98,7 @@ public final class ModelTest {
     }
 
     private void make(int kind) {
-        due("vessel(" + kind + ")", yard.vessel(kind), model.vessel(kind));
+        due(vessel(kind), model.vessel(kind));
     }
 
     private void buy() {
@@ -99,8 +106,7 @@ public final class ModelTest {
         int plot = near(59);
         int grams = to(2) == 0 ? near(100000) : 1 + to(300);
         int wetness = to(1) == 0 ? near(900) : to(80);
-        due("buy(" + v + ", " + plot + ", " + grams + ", " + wetness + ")",
-                yard.buy(v, plot, grams, wetness), model.buy(v, plot, grams, wetness));
+        due(buy(v, plot, grams, wetness), model.buy(v, plot, grams, wetness));
     }
 
     private void move() {
@@ -109,24 +115,24 @@ public final class ModelTest {
         int to = someVessel(to(5) == 0 ? to(3) : to(3) == 0 ? kind : kind + 1);
         int weight = (int) Math.max(0, model.told(from, 1));
         int grams = to(3) == 0 ? weight : near(weight);
-        due("move(" + from + ", " + to + ", " + grams + ")", yard.move(from, to, grams), model.move(from, to, grams));
+        due(move(from, to, grams), model.move(from, to, grams));
     }
 
     private void turn() {
         int v = to(4) == 0 ? someVessel(to(3)) : someVessel(1);
-        due("turn(" + v + ")", yard.turn(v), model.turn(v));
+        due(turn(v), model.turn(v));
     }
 
     private void cover() {
         int v = to(4) == 0 ? someVessel(to(3)) : someVessel(2);
         boolean is = random.nextBoolean();
-        due("cover(" + v + ", " + is + ")", yard.cover(v, is), model.cover(v, is));
+        due(cover(v, is), model.cover(v, is));
     }
 
     private void day() {
         int sun = to(2) == 0 ? 12 : near(12);
         boolean rain = to(4) == 0;
-        due("day(" + sun + ", " + rain + ")", yard.day(sun, rain), model.day(sun, rain));
+        due(day(sun, rain), model.day(sun, rain));
     }
 
     private void cut() {
@@ -135,12 +141,12 @@ public final class ModelTest {
         int a = near(most);
         int b = near(most);
         int c = near(most);
-        due("cut(" + v + ", " + a + ", " + b + ", " + c + ")", yard.cut(v, a, b, c), model.cut(v, a, b, c));
+        due(cut(v, a, b, c), model.cut(v, a, b, c));
     }
 
     private void feed(int[] five) {
-        due("feed", yard.feed(five[0], five[1], five[2], five[3], five[4]), model.feed(five));
-        due("fault of '" + model.text + "'", yard.fault(), model.fault());
+        due(feed(five[0], five[1], five[2], five[3], five[4]), model.feed(five));
+        due(fault(), model.fault());
     }
 
     private void feedAnything() {
@@ -156,8 +162,8 @@ public final class ModelTest {
         }
         feed(five);
         int n = near(model.text.length());
-        due("end(" + n + ")", yard.end(n), model.end(n));
-        due("fault of '" + model.text + "'", yard.fault(), model.fault());
+        due(end(n), model.end(n));
+        due(fault(), model.fault());
     }
 
     private String sum(int depth) {
@@ -181,7 +187,7 @@ public final class ModelTest {
 
     private void tellVote() {
         if (to(9) > 0) {
-            due("end(0)", yard.end(0), model.end(0));
+            due(end(0), model.end(0));
         }
         String text = sum(to(3));
         for (int at = 0; at < text.length(); at += 20) {
@@ -192,79 +198,97 @@ public final class ModelTest {
             feed(five);
         }
         int from = to(5) == 0 ? near(10000) : to((int) model.today + 2);
-        due("vote(" + from + ") of '" + model.text + "'", yard.vote(from), model.vote(from));
+        due(vote(from), model.vote(from));
     }
 
     private void unvote() {
         int vote = near(model.votes.size());
-        due("unvote(" + vote + ")", yard.unvote(vote), model.unvote(vote));
+        due(unvote(vote), model.unvote(vote));
     }
 
     private void premium() {
         int v = to(9) == 0 ? someVessel(to(3)) : someVessel(3);
         int coins = to(2) == 0 ? near(1000000) : 1 + to(500);
-        due("premium(" + v + ", " + coins + ")", yard.premium(v, coins), model.premium(v, coins));
+        due(premium(v, coins), model.premium(v, coins));
     }
 
     private void workPlan() {
         int many = to(3) == 0 ? 1 : 9;
         if (to(60) == 0) {
-            yard.clear();
+            yard.make(clear());
             model.jobs.clear();
         } else if (to(2) == 0) {
             int first = near(59);
             int last = to(2) == 0 ? near(59) : first < 59 && first >= 0 ? first + to(Math.min(12, 59 - first)) : first;
-            due("job(" + first + ", " + last + ")", yard.job(first, last), model.job(first, last));
+            due(job(first, last), model.job(first, last));
         } else {
             int day = near(59);
             int n = near(many);
-            due("places(" + day + ", " + n + ")", yard.places(day, n), model.places(day, n));
+            due(places(day, n), model.places(day, n));
         }
         int job = near(model.jobs.size());
-        due("planned(" + job + ")", yard.planned(job), model.planned(job));
-        due("row(false)", yard.row(false), model.row(false));
-        due("row(true)", yard.row(true), model.row(true));
+        due(planned(job), model.planned(job));
+        due(row(false), model.row(false));
+        due(row(true), model.row(true));
     }
 
+    /** Asks for all that there is, and for what lies around it. */
     private void lookAround() {
+        asked.clear();
+        wants.clear();
         for (int what = -1; what <= 10; what++) {
-            due("count(" + what + ")", yard.count(what), model.count(what));
+            ask(count(what), model.count(what));
         }
+        lookAtVessels();
+        lookAtBooks();
+        for (int i = -1; i <= model.jobs.size(); i++) {
+            ask(planned(i), model.planned(i));
+        }
+        yard.dueAll(asked, wants, run + "behind " + yard.made() + " calls ");
+    }
+
+    private void lookAtVessels() {
         for (int v = -1; v <= model.vessels.size(); v++) {
             for (int what = -1; what <= 9; what++) {
-                due("told(" + v + ", " + what + ")", yard.told(v, what), model.told(v, what));
+                ask(told(v, what), model.told(v, what));
             }
             for (int plot = -1; plot <= 60; plot++) {
-                due("part(" + v + ", " + plot + ")", yard.part(v, plot), model.part(v, plot));
+                ask(part(v, plot), model.part(v, plot));
             }
             for (int member = -1; member <= 20; member++) {
                 int day = near(to(1) == 0 ? 10000 : (int) model.today + 1);
-                due("worth(" + day + ", " + v + ", " + member + ")",
-                        yard.worth(day, v, member), model.worth(day, v, member));
-                due("coins(" + member + ")", yard.coins(member), model.coins(member));
-                due("force(" + day + ")", yard.force(day), model.force(day));
+                ask(worth(day, v, member), model.worth(day, v, member));
+                ask(force(day), model.force(day));
             }
+        }
+    }
+
+    private void lookAtBooks() {
+        for (int member = -1; member <= 20; member++) {
+            ask(coins(member), model.coins(member));
         }
         for (int i = -1; i <= model.entries.size(); i++) {
             for (int what = -1; what <= 4; what++) {
-                due("entry(" + i + ", " + what + ")", yard.entry(i, what), model.entry(i, what));
+                ask(entry(i, what), model.entry(i, what));
             }
         }
         for (int i = -1; i <= model.votes.size(); i++) {
             for (int what = -1; what <= 3; what++) {
-                due("voted(" + i + ", " + what + ")", yard.voted(i, what), model.voted(i, what));
+                ask(voted(i, what), model.voted(i, what));
             }
         }
-        for (int i = -1; i <= model.jobs.size(); i++) {
-            due("planned(" + i + ")", yard.planned(i), model.planned(i));
-        }
     }
 
-    private void due(String call, long got, long want) {
-        Due.due(run + call, got, want);
+    private void ask(Call call, long want) {
+        asked.add(call);
+        wants.add(want);
     }
 
-    private void due(String call, boolean got, boolean want) {
-        Due.due(run + call, got, want);
+    private void due(Call call, long want) {
+        Due.due(run + call, yard.make(call), want);
+    }
+
+    private void due(Call call, boolean want) {
+        due(call, want ? 1 : 0);
     }
 }

@@ -76,8 +76,17 @@ public final class PromiseTest {
         return y;
     }
 
+    /** Feeds a text, twenty bytes a call; answers what the last call did. */
+    private static int feed(CocoaYard y, String text) {
+        long answer = NONE;
+        for (Call call : Calls.feeds(text)) {
+            answer = call.on(y);
+        }
+        return (int) answer;
+    }
+
     private static int voteFor(CocoaYard y, String text, int from) {
-        Due.feed(y, text);
+        feed(y, text);
         return y.vote(from);
     }
 
@@ -496,10 +505,10 @@ public final class PromiseTest {
     private static void promise10() {
         CocoaYard y = new CocoaYard();
         due("an empty text", y.vote(0), NONE);
-        Due.feed(y, "g+");
+        feed(y, "g+");
         due("a fault", y.vote(0), NONE);
         due("the text stays", y.count(8), 2);
-        Due.feed(y, "1");
+        feed(y, "1");
         due("day -1", y.vote(-1), NONE);
         due("day 10001", y.vote(10_001), NONE);
         due("the text stays", y.count(8), 3);
@@ -555,7 +564,7 @@ public final class PromiseTest {
 
     private static void dueFault(String text, int want) {
         CocoaYard y = new CocoaYard();
-        Due.feed(y, text);
+        feed(y, text);
         due("fault of '" + text + "'", y.fault(), want);
         due("vote of '" + text + "'", y.vote(0), want == NONE ? 0 : NONE);
     }
@@ -564,7 +573,7 @@ public final class PromiseTest {
         CocoaYard y = new CocoaYard();
         due("end(0) of none", y.end(0), true);
         due("end(1) of none", y.end(1), false);
-        Due.feed(y, "g*q");
+        feed(y, "g*q");
         due("end(-1)", y.end(-1), false);
         due("end(4)", y.end(4), false);
         due("end(most)", y.end(MOST), false);
@@ -574,7 +583,7 @@ public final class PromiseTest {
         due("end(2)", y.end(2), true);
         due("fault", y.fault(), 2);
         due("no way back", y.end(3), false);
-        due("feed", Due.feed(y, "p"), 3);
+        due("feed", feed(y, "p"), 3);
         due("fault", y.fault(), NONE);
     }
 
@@ -981,7 +990,7 @@ public final class PromiseTest {
         y.premium(3, 40);
         voteFor(y, "g", 0);
         y.job(0, 0);
-        Due.feed(y, "abc");
+        feed(y, "abc");
         long[] want = {1, 4, 1, 2, 4, 80, 80, 1, 3, 70};
         for (int what = 0; what < want.length; what++) {
             due("count(" + what + ")", y.count(what), want[what]);
