@@ -157,6 +157,23 @@ final class Looks extends Calls {
             cuts.add(cut(v, 50, 0, 0));
         }
         addLoose(cuts);
+        addMoves();
+    }
+
+    /** A gram from each vessel that has some to each of the next kind: an empty sack shows only so that it is not cut. */
+    private void addMoves() {
+        List<Call> moves = new ArrayList<>();
+        for (int from = 0; from < vessels; from++) {
+            if (yard.ask(told(from, 1)) == 0) {
+                continue;
+            }
+            for (int to = 0; to < vessels; to++) {
+                if (yard.ask(told(to, 0)) == yard.ask(told(from, 0)) + 1) {
+                    moves.add(move(from, to, 1));
+                }
+            }
+        }
+        addLoose(moves);
     }
 
     private void addBooks() {
