@@ -357,13 +357,9 @@ public final class CocoaYard {
         }
 
         void passDay(int sun, boolean rain) {
-            if (kind == TRAY) {
-                if (!marked) {
-                    dryOrWet(sun, rain);
-                }
-                return;
-            }
-            if (kind == BOX) {
+            if (kind == TRAY && !marked) {
+                dryOrWet(sun, rain);
+            } else if (kind == BOX) {
                 ripen(marked ? 12 : 7);
                 marked = false;
             } else if (kind == HEAP) {
